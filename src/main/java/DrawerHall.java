@@ -172,8 +172,7 @@ public final class DrawerHall {
         return 1;
     }
 
-    public long number(int drawer, int kind, int i)
-            throws ClassCastException, NullPointerException, ArrayIndexOutOfBoundsException {
+    public long number(int drawer, int kind, int i) throws ClassCastException, NullPointerException, ArrayIndexOutOfBoundsException {
         if (!isDrawer(drawer) || !isRowOfNumbers(kind)) {
             return 0;
         }

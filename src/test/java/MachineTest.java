@@ -372,6 +372,8 @@ public final class MachineTest {
     }
 
     private long state;
+    /** In some runs more calls make things, so that the hall grows full. */
+    private int hurry;
 
     private int upTo(int bound) {
         state = state * 6364136223846793005L + 1442695040888963407L;
@@ -380,7 +382,7 @@ public final class MachineTest {
 
     /** Mostly low .. high, now and then a bit or far outside. */
     private int about(int low, int high) {
-        switch (upTo(24)) {
+        switch (upTo(60)) {
             case 0: return low - 1;
             case 1: return high + 1;
             case 2: return upTo(8) == 0 ? (upTo(2) == 0 ? Integer.MIN_VALUE : Integer.MAX_VALUE) : low;
@@ -391,16 +393,42 @@ public final class MachineTest {
     /** A kind as which the drawer's thing can be taken, more often than not. */
     private int kindFor(Model model, int drawer) {
         int kind = about(1, 20);
-        for (int tries = upTo(12); tries > 0 && model.is(drawer, kind) != 1; tries--) {
+        for (int tries = upTo(60); tries > 0 && model.is(drawer, kind) != 1; tries--) {
             kind = 6 + upTo(14);
         }
         return kind;
     }
 
+    /** A drawer that holds a row of the form, as far as a few tries find one; the rest come about as well. */
+    private int drawerFor(Model model, int lowestForm, int highestForm) {
+        int drawer = about(0, 15);
+        for (int tries = upTo(16); tries > 0; tries--) {
+            int label = model.label(drawer);
+            if (label >= lowestForm && label <= highestForm) {
+                break;
+            }
+            drawer = upTo(16);
+        }
+        return drawer;
+    }
+
+    /** A drawer whose thing can be taken as a piece of the kind, as far as a few tries find one. */
+    private int pieceFor(Model model, int kind) {
+        int drawer = about(0, 15);
+        Class<?> piece = kind < 9 || kind > 19 ? Object.class : KINDS[kind].getComponentType();
+        for (int tries = upTo(24); tries > 0 && !model.unknown(drawer); tries--) {
+            if (piece.isInstance(model.drawers[drawer])) {
+                break;
+            }
+            drawer = upTo(16);
+        }
+        return drawer;
+    }
+
     private static final int[] SHEETS = {9, 10, 17, 18, 19};
 
     private void step(DrawerHall hall, Model model, Due due) {
-        switch (upTo(24)) {
+        switch (upTo(hurry)) {
             case 0: case 1: {
                 int form = about(1, 5);
                 int weight = about(0, 999);
@@ -409,7 +437,7 @@ public final class MachineTest {
             }
             case 2: case 3: {
                 int form = about(6, 16);
-                int n = upTo(2) == 0 ? about(0, 12) : about(0, 4);
+                int n = upTo(6) == 0 ? about(0, 12) : about(1, 4);
                 due.same("row " + form + " " + n, hall.row(form, n), model.row(form, n));
                 break;
             }
@@ -451,40 +479,58 @@ public final class MachineTest {
 
     private void ask(DrawerHall hall, Model model, Due due) {
         int d = about(0, 15);
-        int e = about(0, 15);
-        int i = upTo(3) == 0 ? about(0, 12) : about(0, 3);
         int kind = kindFor(model, d);
         String of = " " + d + " " + kind;
-        switch (upTo(14)) {
+        switch (upTo(16)) {
             case 0: due.same("held " + d, hall.held(d), model.held(d)); break;
             case 1: due.same("is" + of, hall.is(d, kind), model.is(d, kind)); break;
             case 2: due.same("label " + d, hall.label(d), model.label(d)); break;
             case 3: due.same("weight " + d, hall.weight(d), model.weight(d)); break;
             case 4: due.same("light " + d, hall.light(d), model.light(d)); break;
             case 5: due.same("size" + of, hall.size(d, kind), model.size(d, kind)); break;
-            case 6: due.same("shine" + of, hall.shine(d, kind), model.shine(d, kind)); break;
-            case 7: due.same("piece" + of + " " + i, hall.piece(d, kind, i), model.piece(d, kind, i)); break;
-            case 8: due.same("number" + of + " " + i, Due.number(hall, d, kind, i), model.number(d, kind, i)); break;
-            case 9: {
-                long v = (long) upTo(Integer.MAX_VALUE) << upTo(40);
-                due.same("put" + of + " " + i + " " + v, hall.put(d, kind, i, v), model.put(d, kind, i, v));
-                break;
-            }
-            case 10: {
-                int to = upTo(6) == 0 ? e : 15;
+            case 6: case 7: askNumbers(hall, model, due); break;
+            default: askRows(hall, model, due);
+        }
+    }
+
+    private void askNumbers(DrawerHall hall, Model model, Due due) {
+        int d = drawerFor(model, 6, 8);
+        int kind = kindFor(model, d);
+        int i = about(0, 2);
+        String of = " " + d + " " + kind + " " + i;
+        if (upTo(2) == 0) {
+            due.same("number" + of, Due.number(hall, d, kind, i), model.number(d, kind, i));
+        } else {
+            long v = (long) (upTo(Integer.MAX_VALUE) - (1 << 30)) << upTo(40);
+            due.same("put" + of + " " + v, hall.put(d, kind, i, v), model.put(d, kind, i, v));
+        }
+    }
+
+    private void askRows(DrawerHall hall, Model model, Due due) {
+        int d = drawerFor(model, 9, 19);
+        int kind = kindFor(model, d);
+        int i = about(0, 2);
+        String of = " " + d + " " + kind;
+        switch (upTo(12)) {
+            case 0: due.same("piece" + of + " " + i, hall.piece(d, kind, i), model.piece(d, kind, i)); break;
+            case 1: {
+                int to = about(0, 15);
                 due.same("pick" + of + " " + i + " " + to, hall.pick(d, kind, i, to), model.pick(d, kind, i, to));
                 break;
             }
-            case 11: {
-                int to = upTo(3) == 0 ? d : e;
-                int b = about(0, 3);
-                int n = about(0, 4);
+            case 2: case 3: case 4: {
+                int to = upTo(4) == 0 ? d : drawerFor(model, 6, 19);
+                int b = about(0, 2);
+                int n = about(0, 3);
                 due.same("move " + d + " " + i + " " + to + " " + b + " " + n,
                     hall.move(d, i, to, b, n), model.move(d, i, to, b, n));
                 break;
             }
-            default:
-                due.same("lay" + of + " " + i + " " + e, hall.lay(d, kind, i, e), model.lay(d, kind, i, e));
+            case 5: due.same("shine" + of, hall.shine(d, kind), model.shine(d, kind)); break;
+            default: {
+                int from = pieceFor(model, kind);
+                due.same("lay" + of + " " + i + " " + from, hall.lay(d, kind, i, from), model.lay(d, kind, i, from));
+            }
         }
     }
 
@@ -516,6 +562,7 @@ public final class MachineTest {
         DrawerHall hall = new DrawerHall();
         for (int run = 0; run < RUNS; run++) {
             test.state = run;
+            test.hurry = run % 3 == 0 ? 20 : 48;
             // Every other run goes on with a used hall, made new by clear().
             if (run % 2 == 0) {
                 hall = new DrawerHall();
