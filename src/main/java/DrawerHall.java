@@ -410,7 +410,7 @@ public final class DrawerHall {
 
     private int make(int form, int amount) {
         int made = things;
-        if (made >= forms.length || made >= amounts.length) {
+        if (made < 0 || made >= forms.length || made >= amounts.length) {
             return NONE;
         }
         things++;

@@ -7,8 +7,12 @@ import java.util.List;
  * objects and arrays, and answers by what the machine itself does with them. The runs are the same each time.
  */
 public final class MachineTest {
-    private static final int RUNS = 3000;
-    private static final int CALLS = 512;
+    private static final int RUNS = 9000;
+    /** Nothing is promised of a hall behind its 512th call: the runs end there, the last calls look at all. */
+    private static final int MOST_CALLS = 512;
+    private static final int CALLS = 400;
+    private static final int CALLS_AHEAD_OF_CLEAR = 150;
+    private static final int CALLS_FOR_A_THING = 8;
 
     interface Shining {
         int light();
@@ -534,24 +538,36 @@ public final class MachineTest {
         }
     }
 
-    /** All that can be seen of both, at the end of a run: a wrong change that no call asked after shows here. */
-    private static void compareAll(DrawerHall hall, Model model, Due due) {
-        for (int what = 0; what <= 6; what++) {
+    /** A wrong change that no call asked after shows here, in the drawers and in as many things as calls are left. */
+    private void compareEnds(DrawerHall hall, Model model, Due due) {
+        int calls = CALLS;
+        for (int what = 0; what <= 6; what++, calls++) {
             due.same("at the end count " + what, hall.count(what), model.count(what));
         }
-        for (int drawer = 0; drawer < 16; drawer++) {
+        for (int drawer = 0; drawer < 16; drawer++, calls++) {
             due.same("at the end held " + drawer, hall.held(drawer), model.held(drawer));
         }
-        for (int thing = 0; thing < model.things.size(); thing++) {
-            hall.keep(0, thing);
-            model.keep(0, thing);
-            int label = hall.label(0);
-            due.same("at the end label of " + thing, label, model.label(0));
-            due.same("at the end weight of " + thing, hall.weight(0), model.weight(0));
-            due.same("at the end size of " + thing, hall.size(0, label), model.size(0, label));
-            for (int i = 0; i < 12; i++) {
-                due.same("at the end piece of " + thing, hall.piece(0, label, i), model.piece(0, label, i));
-                due.same("at the end number of " + thing, Due.number(hall, 0, label, i), model.number(0, label, i));
+        int things = model.things.size();
+        while (things > 0 && calls + CALLS_FOR_A_THING <= MOST_CALLS) {
+            compareThing(hall, model, upTo(things), due);
+            calls += CALLS_FOR_A_THING;
+        }
+    }
+
+    /** At most CALLS_FOR_A_THING calls; in a long row only the first places are looked at. */
+    private static void compareThing(DrawerHall hall, Model model, int thing, Due due) {
+        hall.keep(0, thing);
+        model.keep(0, thing);
+        int label = hall.label(0);
+        String of = "at the end " + thing + ": ";
+        due.same(of + "label", label, model.label(0));
+        due.same(of + "weight", hall.weight(0), model.weight(0));
+        due.same(of + "size " + label, hall.size(0, label), model.size(0, label));
+        for (int i = 0; i < CALLS_FOR_A_THING - 4; i++) {
+            if (label < 9) {
+                due.same(of + "number " + i, Due.number(hall, 0, label, i), model.number(0, label, i));
+            } else {
+                due.same(of + "piece " + i, hall.piece(0, label, i), model.piece(0, label, i));
             }
         }
     }
@@ -559,21 +575,19 @@ public final class MachineTest {
     public static void main(String[] args) {
         Due due = new Due();
         MachineTest test = new MachineTest();
-        DrawerHall hall = new DrawerHall();
         for (int run = 0; run < RUNS; run++) {
             test.state = run;
             test.hurry = run % 3 == 0 ? 20 : 48;
-            // Every other run goes on with a used hall, made new by clear().
-            if (run % 2 == 0) {
-                hall = new DrawerHall();
-            } else {
-                hall.clear();
-            }
+            DrawerHall hall = new DrawerHall();
             Model model = new Model();
             for (int call = 0; call < CALLS; call++) {
-                test.step(hall, model, due);
+                if (run % 2 == 1 && call == CALLS_AHEAD_OF_CLEAR) {
+                    due.same("clear", hall.clear(), model.clear());
+                } else {
+                    test.step(hall, model, due);
+                }
             }
-            compareAll(hall, model, due);
+            test.compareEnds(hall, model, due);
         }
         due.end();
     }
